@@ -1,8 +1,9 @@
 /**
  * A hall of four contracts that are put together of clauses. The promises are those of DOC.md.
  *
- * A clause is kept as its TEXT, which tells a NORMAL one apart from all others. For the time of one call it is
- * read into rows of numbers that are made once and used again: no call makes more than the texts that it answers.
+ * A clause is kept by the signs of its TEXT, which tells a NORMAL one apart from all others. For the time of one
+ * call it is read into rows of numbers that are made once and used again: no call makes more than the text that
+ * it answers.
  */
 public final class Clausekeep {
   private static final int NONE = -1;
@@ -18,7 +19,7 @@ public final class Clausekeep {
   private static final int GREATEST_SIZE = 60;
   private static final int UNDO_ROOM = 8;
   /** 512 calls with nine days each stay below this. */
-  private static final int LOG_ROOM = 5120;
+  private static final int LOG_ROOM = 5000;
   private static final int MOST_FOUND = 30;
   /** How deep clauses are walked; one of 60 signs has some twenty levels at most. */
   private static final int DEEPEST = 40;
@@ -107,17 +108,16 @@ public final class Clausekeep {
     int node = readPaper();
     if (!reader.isGood()) return REFUSED;
     remember();
-    held.names[name] = clauses.toText(node);
     signs = 0;
-    return clauses.sizeOf(node);
+    return held.keep(placeOfName(name), clauses, node);
   }
 
   public int unname(int name) throws IndexOutOfBoundsException {
-    if (name < 0 || name >= NAMES || held.names[name].isEmpty()) {
+    if (name < 0 || name >= NAMES || held.sizeAt(placeOfName(name)) == 0) {
       throw new IndexOutOfBoundsException("nothing is kept by this name");
     }
     remember();
-    held.names[name] = "";
+    held.forget(placeOfName(name));
     return namesKept();
   }
 
@@ -137,7 +137,7 @@ public final class Clausekeep {
     needContract(to);
     if (how < 0 || how > 2) throw new IllegalArgumentException("no such way to join");
     int first = fresh(one);
-    int node = clauses.joined(BOTH + how, first, further(other));
+    int node = clauses.joined(BOTH + how, first, reader.readKept(held, other));
     if (clauses.sizeOf(node) > GREATEST_SIZE) return REFUSED;
     return tell(to, node);
   }
@@ -150,7 +150,7 @@ public final class Clausekeep {
     if (clauses.stateOf(node) != OPEN_STATE) return REFUSED;
     remember();
     int rest = come(contract, node, party * ACTS + act);
-    held.clauses[contract] = clauses.toText(rest);
+    held.keep(contract, clauses, rest);
     return clauses.stateOf(rest);
   }
 
@@ -161,7 +161,7 @@ public final class Clausekeep {
     remember();
     int gone = 0;
     for (; gone < days && clauses.stateOf(node) == OPEN_STATE; gone++) node = come(contract, node, DAY);
-    held.clauses[contract] = clauses.toText(node);
+    held.keep(contract, clauses, node);
     return gone;
   }
 
@@ -176,7 +176,7 @@ public final class Clausekeep {
     for (; gone < events && gone < PAPER_ROOM && clauses.stateOf(node) == OPEN_STATE; gone++) {
       node = come(contract, node, row[gone]);
     }
-    held.clauses[contract] = clauses.toText(node);
+    held.keep(contract, clauses, node);
     return gone;
   }
 
@@ -193,11 +193,7 @@ public final class Clausekeep {
     if (nth < 0) throw new IllegalArgumentException("no such part");
     int node = fresh(contract);
     if (clauses.kindOf(node) != BOTH || nth >= clauses.partsOf(node)) return REFUSED;
-    int base = clauses.height();
-    for (int i = 0; i < clauses.partsOf(node); i++) {
-      if (i != nth) clauses.push(clauses.partOf(node, i));
-    }
-    int rest = clauses.gathered(BOTH, base);
+    int rest = clauses.without(node, clauses.partOf(node, nth));
     tell(contract, rest);
     return clauses.stateOf(rest);
   }
@@ -208,10 +204,7 @@ public final class Clausekeep {
     needAct(act);
     if (worth < -99 || worth > 99) throw new IllegalArgumentException("no such worth");
     remember();
-    int place = (party * ACTS + act) * PARTIES + whom;
-    int before = held.worths[place];
-    held.worths[place] = worth;
-    return before;
+    return held.putWorth(party * ACTS + act, whom, worth);
   }
 
   public int fine(int fine) throws IllegalArgumentException {
@@ -225,7 +218,7 @@ public final class Clausekeep {
   public int undo() throws IllegalStateException {
     if (undoable <= 0) throw new IllegalStateException("nothing can be undone");
     undoable--;
-    nextPast = (nextPast + UNDO_ROOM - 1) % UNDO_ROOM;
+    nextPast = Math.floorMod(nextPast - 1, UNDO_ROOM);
     held.become(past[nextPast]);
     return undoable;
   }
@@ -259,12 +252,12 @@ public final class Clausekeep {
 
   public String named(int name) throws IllegalArgumentException {
     needName(name);
-    return held.names[name].isEmpty() ? "-" : held.names[name];
+    return held.sizeAt(placeOfName(name)) == 0 ? "-" : toText(placeOfName(name));
   }
 
   public String text(int contract) throws IndexOutOfBoundsException {
     needContract(contract);
-    return held.clauses[contract];
+    return toText(contract);
   }
 
   public int ofContract(int contract, int what) throws IndexOutOfBoundsException, IllegalArgumentException {
@@ -283,7 +276,7 @@ public final class Clausekeep {
       words.append(signOfDuty(duty));
       words.append(partyLetter(eventOfDuty(duty)));
       words.append(actLetter(eventOfDuty(duty)));
-      words.append((char) ('0' + daysOfDuty(duty)));
+      words.append(daysLetter(duty));
     }
     return words.toString();
   }
@@ -303,13 +296,13 @@ public final class Clausekeep {
 
   public String told(int contract) throws IndexOutOfBoundsException {
     needContract(contract);
-    return held.tolds[contract];
+    return toText(placeOfTold(contract));
   }
 
   public String log(int contract) throws IndexOutOfBoundsException {
     needContract(contract);
     words.setLength(0);
-    for (int i = 0; i < held.logCounts[contract]; i++) {
+    for (int i = 0; i < held.logCount(contract); i++) {
       int event = logged(contract, i);
       if (event == DAY) {
         words.append('.');
@@ -323,7 +316,7 @@ public final class Clausekeep {
 
   public int account(int party) throws IllegalArgumentException {
     needParty(party);
-    return held.accounts[party];
+    return held.accountOf(party);
   }
 
   public int house(int what) throws IllegalArgumentException {
@@ -336,7 +329,7 @@ public final class Clausekeep {
   public int reached(int contract) throws IndexOutOfBoundsException {
     needContract(contract);
     search.explore(fresh(contract), DONE);
-    return search.isTooMany ? REFUSED : search.count;
+    return search.countOrRefused();
   }
 
   public String found(int contract, int nth) throws IndexOutOfBoundsException, IllegalArgumentException {
@@ -379,7 +372,7 @@ public final class Clausekeep {
 
   public int pairs(int one, int other) throws IndexOutOfBoundsException {
     explorePairs(one, other);
-    return search.isTooMany ? REFUSED : search.count;
+    return search.countOrRefused();
   }
 
   public int binds(int one, int other) throws IndexOutOfBoundsException {
@@ -390,10 +383,7 @@ public final class Clausekeep {
 
   public String least(int contract) throws IndexOutOfBoundsException {
     needContract(contract);
-    int whole = fresh(contract);
-    int kind = clauses.kindOf(whole);
-    if (kind != BOTH && kind != EITHER) return held.clauses[contract];
-    int rest = search.leastOf(whole, kind);
+    int rest = search.leastOf(fresh(contract));
     return search.isTooMany ? "!" : clauses.toText(rest);
   }
 
@@ -410,17 +400,10 @@ public final class Clausekeep {
   }
 
   public boolean isSound() {
-    for (int i = 0; i < CONTRACTS; i++) {
-      int node = fresh(i);
-      if (!clauses.isSame(clauses.joined(BOTH, node, node), node)) return false;
-      if (!clauses.isSame(clauses.joined(EITHER, node, node), node)) return false;
-      if (!isRunAgain(i)) return false;
-      for (int other = i + 1; other < CONTRACTS; other++) {
-        int one = fresh(i);
-        int two = further(other);
-        for (int kind = BOTH; kind <= EITHER; kind++) {
-          if (!clauses.isSame(clauses.joined(kind, one, two), clauses.joined(kind, two, one))) return false;
-        }
+    for (int contract = 0; contract < CONTRACTS; contract++) {
+      if (!isItselfTwice(contract) || !isRunAgain(contract)) return false;
+      for (int other = contract + 1; other < CONTRACTS; other++) {
+        if (!isEitherWayRound(contract, other, BOTH) || !isEitherWayRound(contract, other, EITHER)) return false;
       }
     }
     return true;
@@ -432,12 +415,13 @@ public final class Clausekeep {
     readPaper();
     d = d * 31 + reader.faultAt;
     for (int name = 0; name < NAMES; name++) {
-      if (!held.names[name].isEmpty()) d = (d * 31 + name) * 31 + held.names[name].length();
+      int size = held.sizeAt(placeOfName(name));
+      if (size > 0) d = (d * 31 + name) * 31 + size;
     }
     for (int contract = 0; contract < CONTRACTS; contract++) d = digestContract(d, contract);
-    for (int party = 0; party < PARTIES; party++) d = d * 31 + held.accounts[party];
+    for (int party = 0; party < PARTIES; party++) d = d * 31 + held.accountOf(party);
     search.explore(fresh(0), DONE);
-    d = d * 31 + (search.isTooMany ? REFUSED : search.count);
+    d = d * 31 + search.countOrRefused();
     return d * 31 + (isSound() ? 1 : 0);
   }
 
@@ -473,6 +457,10 @@ public final class Clausekeep {
     return (char) ('p' + event % ACTS);
   }
 
+  private static char daysLetter(int duty) {
+    return (char) ('0' + daysOfDuty(duty));
+  }
+
   private static char signOfDuty(int duty) {
     int sign = duty / KINDS_OF_SIGN;
     return sign >= 0 && sign < DUTY_SIGNS.length() ? DUTY_SIGNS.charAt(sign) : '?';
@@ -484,6 +472,14 @@ public final class Clausekeep {
 
   private static int daysOfDuty(int duty) {
     return duty % 10;
+  }
+
+  private static int placeOfTold(int contract) {
+    return CONTRACTS + contract;
+  }
+
+  private static int placeOfName(int name) {
+    return 2 * CONTRACTS + name;
   }
 
   private static int one(int sign) {
@@ -499,13 +495,13 @@ public final class Clausekeep {
   // ---- reading
 
   private int readPaper() {
-    return reader.readPaper(paper, signs, held.names);
+    return reader.readPaper(paper, signs, held);
   }
 
   /** The EVENTS of the PAPER go to the row; how many there are, or NONE if it is no ROW. */
   private int readRow() {
     int events = 0;
-    for (int at = 0; at < signs && at < PAPER_ROOM && events < row.length; at++) {
+    for (int at = 0; at < signs && at < PAPER_ROOM && events < PAPER_ROOM; at++) {
       char sign = paper[at];
       if (sign == '.') {
         row[events] = DAY;
@@ -523,18 +519,19 @@ public final class Clausekeep {
   /** The CLAUSE of a CONTRACT as the only one that is read. */
   private int fresh(int contract) {
     clauses.clear();
-    return further(contract);
+    return reader.readKept(held, contract);
   }
 
-  private int further(int contract) {
-    if (contract < 0 || contract >= CONTRACTS) return DONE;
-    return reader.readKept(held.clauses[contract]);
+  private String toText(int place) {
+    words.setLength(0);
+    for (int i = 0; i < held.sizeAt(place); i++) words.append(held.signAt(place, i));
+    return words.toString();
   }
 
   // ---- changes
 
   private void remember() {
-    if (nextPast < 0 || nextPast >= UNDO_ROOM) return;
+    if (nextPast < 0 || nextPast >= UNDO_ROOM || past[nextPast] == null) return;
     past[nextPast].become(held);
     nextPast = (nextPast + 1) % UNDO_ROOM;
     if (undoable < UNDO_ROOM) undoable++;
@@ -542,27 +539,20 @@ public final class Clausekeep {
 
   private int tell(int contract, int node) {
     remember();
-    String made = clauses.toText(node);
-    held.clauses[contract] = made;
-    held.tolds[contract] = made;
-    // what the past has logged stands ahead of this place and is not written over
-    held.logStarts[contract] += held.logCounts[contract];
-    held.logCounts[contract] = 0;
-    return made.length();
+    held.keep(contract, clauses, node);
+    held.emptyLog(contract);
+    return held.keep(placeOfTold(contract), clauses, node);
   }
 
   /** An EVENT comes to an OPEN CONTRACT; what is LEFT of it. */
   private int come(int contract, int node, int event) {
     int rest = clauses.left(node, event, 0);
-    if (event >= 0 && event < DAY) {
-      for (int whom = 0; whom < PARTIES; whom++) held.accounts[whom] += held.worths[event * PARTIES + whom];
-    }
-    int breaker = clauses.stateOf(rest) - FIRST_BROKEN_STATE;
-    if (breaker >= 0 && breaker < PARTIES) held.accounts[breaker] -= held.penalty;
-    int end = held.logStarts[contract] + held.logCounts[contract];
-    if (end >= 0 && end < LOG_ROOM) {
+    for (int whom = 0; whom < PARTIES; whom++) held.pay(whom, held.worthOf(event, whom));
+    held.pay(clauses.stateOf(rest) - FIRST_BROKEN_STATE, -held.penalty);
+    int end = held.logEnd(contract);
+    if (end >= 0 && end < LOG_ROOM && contract >= 0 && contract < CONTRACTS) {
       logs[contract * LOG_ROOM + end] = (byte) event;
-      held.logCounts[contract]++;
+      held.growLog(contract);
     }
     return rest;
   }
@@ -570,20 +560,21 @@ public final class Clausekeep {
   // ---- numbers that are told
 
   private int logged(int contract, int nth) {
-    int place = held.logStarts[contract] + nth;
-    return place >= 0 && place < LOG_ROOM ? logs[contract * LOG_ROOM + place] : DAY;
+    int place = held.logStart(contract) + nth;
+    if (contract < 0 || contract >= CONTRACTS || place < 0 || place >= LOG_ROOM) return DAY;
+    return logs[contract * LOG_ROOM + place];
   }
 
   private int logLength(int contract) {
     int length = 0;
-    for (int i = 0; i < held.logCounts[contract]; i++) length += logged(contract, i) == DAY ? 1 : 2;
+    for (int i = 0; i < held.logCount(contract); i++) length += logged(contract, i) == DAY ? 1 : 2;
     return length;
   }
 
   private int namesKept() {
     int kept = 0;
     for (int i = 0; i < NAMES; i++) {
-      if (!held.names[i].isEmpty()) kept++;
+      if (held.sizeAt(placeOfName(i)) > 0) kept++;
     }
     return kept;
   }
@@ -591,7 +582,7 @@ public final class Clausekeep {
   private int contractsOfState(int state) {
     int many = 0;
     for (int i = 0; i < CONTRACTS; i++) {
-      if (clauses.stateOf(fresh(i)) == state) many++;
+      if (held.stateAt(i) == state) many++;
     }
     return many;
   }
@@ -614,42 +605,52 @@ public final class Clausekeep {
       case 0: return clauses.stateOf(node);
       case 1: return clauses.sizeOf(node);
       case 2: return clauses.kindOf(node);
-      case 3: return clauses.kindOf(node) == BEHIND ? 2 : clauses.kindOf(node) == TILL ? 1 : clauses.partsOf(node);
-      case 4: return held.logCounts[contract];
+      case 3: return clauses.widthOf(node);
+      case 4: return held.logCount(contract);
       case 7: return Integer.bitCount(clauses.eventsIn(node));
       default: break;
     }
     clauses.tellNow(node);
-    if (what == 5) return clauses.nowCount();
-    int musts = 0;
-    for (int i = 0; i < clauses.nowCount(); i++) {
-      if (clauses.nowAt(i) / KINDS_OF_SIGN == MUST) musts++;
-    }
-    return musts;
+    return what == 5 ? clauses.nowCount() : clauses.mustCount();
   }
 
   private long digestContract(long before, int contract) {
     long d = before;
     int node = fresh(contract);
     for (int what = 0; what <= 7; what++) d = d * 31 + numberOf(contract, node, what);
-    String signsOfIt = held.clauses[contract];
-    for (int i = 0; i < signsOfIt.length(); i++) d = d * 31 + signsOfIt.charAt(i);
+    for (int i = 0; i < held.sizeAt(contract); i++) d = d * 31 + held.signAt(contract, i);
     clauses.tellNow(node);
     // four signs each, with a blank between two
     d = d * 31 + Math.max(0, clauses.nowCount() * 5 - 1);
     return d * 31 + logLength(contract);
   }
 
+  // ---- what is SOUND
+
+  private boolean isItselfTwice(int contract) {
+    clauses.clear();
+    int node = reader.readKept(held, contract);
+    return clauses.isSame(clauses.joined(BOTH, node, node), node)
+        && clauses.isSame(clauses.joined(EITHER, node, node), node);
+  }
+
   /** Whether what a CONTRACT was when it was TOLD last, with its LOG run again, is what it is. */
   private boolean isRunAgain(int contract) {
     clauses.clear();
-    int node = reader.readKept(held.tolds[contract]);
-    for (int i = 0; i < held.logCounts[contract]; i++) {
+    int node = reader.readKept(held, placeOfTold(contract));
+    for (int i = 0; i < held.logCount(contract); i++) {
       int rest = clauses.left(node, logged(contract, i), 0);
       // a long log would fill the rows: what is LEFT is read into empty ones
       if (rest != node) node = reader.readAgain(rest);
     }
-    return clauses.hasText(node, held.clauses[contract]);
+    return clauses.isSame(node, reader.readKept(held, contract));
+  }
+
+  private boolean isEitherWayRound(int contract, int other, int kind) {
+    clauses.clear();
+    int one = reader.readKept(held, contract);
+    int two = reader.readKept(held, other);
+    return clauses.isSame(clauses.joined(kind, one, two), clauses.joined(kind, two, one));
   }
 
   // ---- all rows of two, and of what is sure
@@ -658,7 +659,7 @@ public final class Clausekeep {
     needContract(one);
     needContract(other);
     int first = fresh(one);
-    search.explore(first, further(other));
+    search.explore(first, reader.readKept(held, other));
   }
 
   /** The turns are at most two, and each call goes on with one less. */
@@ -691,7 +692,7 @@ public final class Clausekeep {
       int event = step == 0 ? own : step == 1 ? others : DAY;
       if (event < 0 || clauses.stateOf(rest) != OPEN_STATE) continue;
       rest = clauses.left(rest, event, 0);
-      if (event < DAY) gain += held.worths[event * PARTIES + party];
+      gain += held.worthOf(event, party);
       if (clauses.stateOf(rest) == FIRST_BROKEN_STATE + party) gain -= held.penalty;
     }
     gain += sureOf(rest, party, turns - 1);
@@ -699,37 +700,111 @@ public final class Clausekeep {
     return gain;
   }
 
-  /** All that undo() brings back. */
+  /**
+   * All that undo() brings back. Texts stand at places: those of the CONTRACTS, those that they had when they were
+   * TOLD last, and those of the NAMES, with SIZE 0 where nothing is kept.
+   */
   private static final class Held {
-    private final String[] clauses = new String[CONTRACTS];
-    private final String[] tolds = new String[CONTRACTS];
+    private static final int PLACES = CONTRACTS + CONTRACTS + NAMES;
+
+    private final char[] texts = new char[PLACES * GREATEST_SIZE];
+    private final int[] sizes = new int[PLACES];
     private final int[] logStarts = new int[CONTRACTS];
     private final int[] logCounts = new int[CONTRACTS];
-    private final String[] names = new String[NAMES];
-    private final int[] worths = new int[PARTIES * ACTS * PARTIES];
+    private final int[] worths = new int[DAY * PARTIES];
     private final int[] accounts = new int[PARTIES];
     private int penalty;
 
     Held() {
-      for (int i = 0; i < CONTRACTS; i++) {
-        clauses[i] = "1";
-        tolds[i] = "1";
+      for (int place = 0; place < CONTRACTS + CONTRACTS; place++) {
+        texts[place * GREATEST_SIZE] = '1';
+        sizes[place] = 1;
       }
-      for (int i = 0; i < NAMES; i++) names[i] = "";
     }
 
     void become(Held other) {
       if (other == null) return;
-      for (int i = 0; i < CONTRACTS; i++) {
-        clauses[i] = other.clauses[i];
-        tolds[i] = other.tolds[i];
-        logStarts[i] = other.logStarts[i];
-        logCounts[i] = other.logCounts[i];
-      }
-      for (int i = 0; i < NAMES; i++) names[i] = other.names[i];
-      for (int i = 0; i < worths.length; i++) worths[i] = other.worths[i];
-      for (int i = 0; i < PARTIES; i++) accounts[i] = other.accounts[i];
+      System.arraycopy(other.texts, 0, texts, 0, PLACES * GREATEST_SIZE);
+      System.arraycopy(other.sizes, 0, sizes, 0, PLACES);
+      System.arraycopy(other.logStarts, 0, logStarts, 0, CONTRACTS);
+      System.arraycopy(other.logCounts, 0, logCounts, 0, CONTRACTS);
+      System.arraycopy(other.worths, 0, worths, 0, DAY * PARTIES);
+      System.arraycopy(other.accounts, 0, accounts, 0, PARTIES);
       penalty = other.penalty;
+    }
+
+    int sizeAt(int place) {
+      return place >= 0 && place < PLACES ? sizes[place] : 0;
+    }
+
+    char signAt(int place, int nth) {
+      if (nth < 0 || nth >= sizeAt(place) || nth >= GREATEST_SIZE) return 0;
+      return texts[place * GREATEST_SIZE + nth];
+    }
+
+    /** A TEXT of one sign is DONE, one of two signs is BROKEN by the PARTY behind. */
+    int stateAt(int place) {
+      if (place < 0 || place >= PLACES || sizes[place] > 2) return OPEN_STATE;
+      return sizes[place] < 2 ? DONE_STATE : FIRST_BROKEN_STATE + texts[place * GREATEST_SIZE + 1] - 'A';
+    }
+
+    /** Returns its SIZE. */
+    int keep(int place, Clauses clauses, int node) {
+      if (place < 0 || place >= PLACES || clauses == null) return 0;
+      int size = Math.min(clauses.sizeOf(node), GREATEST_SIZE);
+      for (int i = 0; i < size; i++) texts[place * GREATEST_SIZE + i] = clauses.signOf(node, i);
+      sizes[place] = size;
+      return size;
+    }
+
+    void forget(int place) {
+      if (place >= 0 && place < PLACES) sizes[place] = 0;
+    }
+
+    int logStart(int contract) {
+      return contract >= 0 && contract < CONTRACTS ? logStarts[contract] : 0;
+    }
+
+    int logCount(int contract) {
+      return contract >= 0 && contract < CONTRACTS ? logCounts[contract] : 0;
+    }
+
+    int logEnd(int contract) {
+      return logStart(contract) + logCount(contract);
+    }
+
+    void growLog(int contract) {
+      if (contract >= 0 && contract < CONTRACTS) logCounts[contract]++;
+    }
+
+    /** What the past has logged stands ahead of the new beginning and is not written over. */
+    void emptyLog(int contract) {
+      if (contract < 0 || contract >= CONTRACTS) return;
+      logStarts[contract] += logCounts[contract];
+      logCounts[contract] = 0;
+    }
+
+    /** The WORTH of an ACT for a PARTY; a DAY has none. */
+    int worthOf(int event, int whom) {
+      if (event < 0 || event >= DAY || whom < 0 || whom >= PARTIES) return 0;
+      return worths[event * PARTIES + whom];
+    }
+
+    /** Returns the WORTH before. */
+    int putWorth(int event, int whom, int worth) {
+      if (event < 0 || event >= DAY || whom < 0 || whom >= PARTIES) return 0;
+      int before = worths[event * PARTIES + whom];
+      worths[event * PARTIES + whom] = worth;
+      return before;
+    }
+
+    int accountOf(int party) {
+      return party >= 0 && party < PARTIES ? accounts[party] : 0;
+    }
+
+    /** Pays a PARTY; nobody else. */
+    void pay(int party, int money) {
+      if (party >= 0 && party < PARTIES) accounts[party] += money;
     }
   }
 
@@ -738,18 +813,21 @@ public final class Clausekeep {
    * are told. A node is made behind its parts, so that the last ones can be let go again.
    */
   private static final class Clauses {
-    private static final int NODE_ROOM = 4000;
-    private static final int PART_ROOM = 6000;
-    private static final int TEXT_ROOM = 60000;
-    private static final int STACK_ROOM = 2000;
+    private static final int NODE_ROOM = 3000;
+    private static final int PART_ROOM = 4000;
+    private static final int TEXT_ROOM = 50000;
+    private static final int STACK_ROOM = 1000;
     private static final int NOW_ROOM = 64;
+    private static final String ENDED_TEXTS = "10A0B0C";
 
     private final int[] kinds = new int[NODE_ROOM];
-    /** The kind of a DUTY, the EVENT of a TILL, how many PARTS a row has. */
+    /** The kind of a DUTY, the EVENT of a TILL. */
     private final int[] leads = new int[NODE_ROOM];
     private final int[] firsts = new int[NODE_ROOM];
     private final int[] seconds = new int[NODE_ROOM];
     private final int[] partStarts = new int[NODE_ROOM];
+    /** How many PARTS a row has. */
+    private final int[] counts = new int[NODE_ROOM];
     private final int[] textStarts = new int[NODE_ROOM];
     private final int[] sizes = new int[NODE_ROOM];
     private final int[] parts = new int[PART_ROOM];
@@ -764,14 +842,13 @@ public final class Clausekeep {
     private int nowTop;
 
     Clauses() {
-      String ended = "10A0B0C";
-      for (int i = 0; i < ended.length(); i++) texts[i] = ended.charAt(i);
+      for (int i = 0; i < ENDED_TEXTS.length(); i++) texts[i] = ENDED_TEXTS.charAt(i);
       for (int i = 0; i < FIXED; i++) {
         textStarts[i] = i == DONE ? 0 : i * 2 - 1;
         sizes[i] = i == DONE ? 1 : 2;
       }
       nodes = FIXED;
-      textTop = ended.length();
+      textTop = ENDED_TEXTS.length();
     }
 
     // ---- room
@@ -785,8 +862,9 @@ public final class Clausekeep {
       return nodes;
     }
 
+    /** Lets go all nodes that were made since the mark. */
     void release(int mark) {
-      if (mark < FIXED || mark >= nodes) return;
+      if (mark < FIXED || mark >= nodes || mark >= NODE_ROOM) return;
       nodes = mark;
       partTop = partStarts[mark];
       textTop = textStarts[mark];
@@ -802,10 +880,26 @@ public final class Clausekeep {
       stackTop++;
     }
 
+    private int stackAt(int place) {
+      return place >= 0 && place < stackTop && place < STACK_ROOM ? stack[place] : DONE;
+    }
+
     // ---- what a node is
 
     int kindOf(int node) {
-      return node >= FIXED && node < nodes ? kinds[node] : ENDED;
+      return node >= 0 && node < NODE_ROOM ? kinds[node] : ENDED;
+    }
+
+    private int leadOf(int node) {
+      return node >= 0 && node < NODE_ROOM ? leads[node] : 0;
+    }
+
+    private int firstOf(int node) {
+      return node >= 0 && node < NODE_ROOM ? firsts[node] : DONE;
+    }
+
+    private int secondOf(int node) {
+      return node >= 0 && node < NODE_ROOM ? seconds[node] : DONE;
     }
 
     int stateOf(int node) {
@@ -813,23 +907,28 @@ public final class Clausekeep {
     }
 
     int sizeOf(int node) {
-      return node >= 0 && node < nodes ? sizes[node] : 0;
+      return node >= 0 && node < NODE_ROOM ? sizes[node] : 0;
     }
 
     /** How many PARTS stand in a row of "&", "/" or ";"; 0 of all others. */
     int partsOf(int node) {
+      return node >= 0 && node < NODE_ROOM ? counts[node] : 0;
+    }
+
+    /** How many PARTS the document counts: a row of ";" is one, and all the rest behind it. */
+    int widthOf(int node) {
       int kind = kindOf(node);
-      return kind == BOTH || kind == EITHER || kind == BEHIND ? leads[node] : 0;
+      return kind == BEHIND ? 2 : kind == TILL ? 1 : partsOf(node);
     }
 
     int partOf(int node, int nth) {
-      if (nth < 0 || nth >= partsOf(node)) return DONE;
+      if (node < 0 || node >= NODE_ROOM || nth < 0 || nth >= counts[node]) return DONE;
       int place = partStarts[node] + nth;
       return place >= 0 && place < PART_ROOM ? parts[place] : DONE;
     }
 
-    private char signOf(int node, int nth) {
-      if (nth < 0 || nth >= sizeOf(node)) return 0;
+    char signOf(int node, int nth) {
+      if (node < 0 || node >= NODE_ROOM || nth < 0 || nth >= sizes[node]) return 0;
       int place = textStarts[node] + nth;
       return place >= 0 && place < TEXT_ROOM ? texts[place] : 0;
     }
@@ -840,29 +939,16 @@ public final class Clausekeep {
       return words.toString();
     }
 
-    int copyText(int node, char[] to) {
-      int i = 0;
-      for (; i < sizeOf(node) && i < to.length; i++) to[i] = signOf(node, i);
-      return i;
-    }
-
-    boolean hasText(int node, String other) {
-      if (sizeOf(node) != other.length()) return false;
-      for (int i = 0; i < other.length(); i++) {
-        if (signOf(node, i) != other.charAt(i)) return false;
-      }
-      return true;
-    }
-
     boolean isSame(int one, int other) {
-      return one == other || compared(one, other) == 0;
+      return one == other || sizeOf(one) == sizeOf(other) && compared(one, other) == 0;
     }
 
     private int compared(int one, int other) {
-      if (one < 0 || other < 0 || one >= nodes || other >= nodes) return one - other;
+      if (one < 0 || one >= NODE_ROOM || other < 0 || other >= NODE_ROOM) return one - other;
       int shorter = Math.min(sizes[one], sizes[other]);
       int here = textStarts[one];
       int there = textStarts[other];
+      if (here < 0 || there < 0) return one - other;
       for (int i = 0; i < shorter && here + i < TEXT_ROOM && there + i < TEXT_ROOM; i++) {
         if (texts[here + i] != texts[there + i]) return texts[here + i] - texts[there + i];
       }
@@ -895,6 +981,7 @@ public final class Clausekeep {
       firsts[node] = DONE;
       seconds[node] = DONE;
       partStarts[node] = partTop;
+      counts[node] = 0;
       textStarts[node] = textTop;
       sizes[node] = 0;
       return node;
@@ -906,14 +993,31 @@ public final class Clausekeep {
       textTop++;
     }
 
+    private void putEvent(int event) {
+      put(partyLetter(event));
+      put(actLetter(event));
+    }
+
     private void putText(int node, boolean isBracketed) {
-      if (isBracketed) put('(');
-      for (int i = 0; i < sizeOf(node); i++) put(signOf(node, i));
-      if (isBracketed) put(')');
+      if (node < 0 || node >= NODE_ROOM) return;
+      int start = textStarts[node];
+      int size = sizes[node];
+      if (start < 0 || size < 0 || start > TEXT_ROOM - size) return;
+      if (textTop < 0 || textTop > TEXT_ROOM - size - 2) return;
+      if (isBracketed) {
+        texts[textTop] = '(';
+        textTop++;
+      }
+      System.arraycopy(texts, start, texts, textTop, size);
+      textTop += size;
+      if (isBracketed) {
+        texts[textTop] = ')';
+        textTop++;
+      }
     }
 
     private int closed(int node) {
-      sizes[node] = textTop - textStarts[node];
+      if (node >= 0 && node < NODE_ROOM) sizes[node] = textTop - textStarts[node];
       return node;
     }
 
@@ -934,9 +1038,8 @@ public final class Clausekeep {
       firsts[node] = first;
       seconds[node] = second;
       put(signOfDuty(duty));
-      put(partyLetter(eventOfDuty(duty)));
-      put(actLetter(eventOfDuty(duty)));
-      put((char) ('0' + daysOfDuty(duty)));
+      putEvent(eventOfDuty(duty));
+      put(daysLetter(duty));
       if (first != usualEnd(duty, 0) || second != usualEnd(duty, 1)) {
         put('[');
         putText(first, false);
@@ -954,21 +1057,22 @@ public final class Clausekeep {
       firsts[node] = inner;
       putText(inner, partsOf(inner) > 0);
       put('@');
-      put(partyLetter(event));
-      put(actLetter(event));
+      putEvent(event);
       return closed(node);
     }
 
     private int rowFrom(int kind, int start) {
       int joint = kind - BOTH;
-      if (joint < 0 || joint >= JOINTS.length() || start < 0 || partTop + stackTop - start > PART_ROOM) return DONE;
-      int node = opened(kind, stackTop - start);
+      int many = stackTop - start;
+      if (joint < 0 || joint >= JOINTS.length() || start < 0 || many < 0 || partTop > PART_ROOM - many) return DONE;
+      int node = opened(kind, 0);
       if (node == DONE) return DONE;
-      for (int i = start; i < stackTop && i < STACK_ROOM && partTop < PART_ROOM; i++) {
-        int part = stack[i];
-        parts[partTop] = part;
+      counts[node] = many;
+      for (int i = 0; i < many; i++) {
+        int part = stackAt(start + i);
+        if (partTop >= 0 && partTop < PART_ROOM) parts[partTop] = part;
         partTop++;
-        if (i > start) put(JOINTS.charAt(joint));
+        if (i > 0) put(JOINTS.charAt(joint));
         // what binds less closely than the row stands in brackets
         putText(part, partsOf(part) > 0 && kindOf(part) > kind);
       }
@@ -982,34 +1086,22 @@ public final class Clausekeep {
       return gathered(kind, base);
     }
 
+    /** What a row is without one of its PARTS. */
+    int without(int node, int part) {
+      int base = stackTop;
+      for (int i = 0; i < partsOf(node); i++) {
+        int other = partOf(node, i);
+        if (other != part) push(other);
+      }
+      return gathered(kindOf(node), base);
+    }
+
     /** Takes what waits on the stack from the base on, and makes a NORMAL row of it. */
     int gathered(int kind, int base) {
       int start = flattened(kind, base);
       int end = stackTop;
-      int broken = DONE;
-      boolean isDone = false;
-      for (int i = start; i < end && i < STACK_ROOM; i++) {
-        int part = stack[i];
-        if (part == DONE) {
-          isDone = true;
-        } else if (kind == BEHIND) {
-          push(part);
-          if (kindOf(part) == ENDED) break;
-        } else if (kindOf(part) == ENDED) {
-          broken = broken == DONE ? part : Math.min(broken, part);
-        } else {
-          insert(part, end);
-        }
-      }
-      int many = stackTop - end;
-      int node;
-      if (kind == BOTH && broken != DONE || many == 0) {
-        node = kind == EITHER && isDone ? DONE : broken;
-      } else if (kind == EITHER && isDone) {
-        node = DONE;
-      } else {
-        node = many == 1 && end < STACK_ROOM ? stack[end] : rowFrom(kind, end);
-      }
+      int node = kind == BEHIND ? followed(start, end) : sorted(kind, start, end);
+      if (node == NONE) node = stackTop - end == 1 ? stackAt(end) : rowFrom(kind, end);
       stackTop = base;
       return node;
     }
@@ -1017,26 +1109,53 @@ public final class Clausekeep {
     /** PARTS that are rows of the same kind give theirs: all stand behind the others then, from the answer on. */
     private int flattened(int kind, int base) {
       int start = stackTop;
-      for (int i = base; i >= 0 && i < start && i < STACK_ROOM; i++) {
-        int part = stack[i];
+      for (int i = base; i < start; i++) {
+        int part = stackAt(i);
         if (kindOf(part) != kind) push(part);
         for (int nth = 0; kindOf(part) == kind && nth < partsOf(part); nth++) push(partOf(part, nth));
       }
       return start;
     }
 
-    private void insert(int part, int start) {
-      int place = start;
-      for (; place >= 0 && place < stackTop && place < STACK_ROOM; place++) {
-        int order = compared(part, stack[place]);
-        if (order == 0) return;
-        if (order < 0) break;
+    /** Nothing comes behind what is BROKEN. Returns DONE if nothing is left, otherwise NONE. */
+    private int followed(int start, int end) {
+      for (int i = start; i < end; i++) {
+        int part = stackAt(i);
+        if (part == DONE) continue;
+        push(part);
+        if (kindOf(part) == ENDED) break;
       }
-      push(part);
-      for (int i = stackTop - 1; i > place && i < STACK_ROOM && i > 0; i--) {
-        stack[i] = stack[i - 1];
-        stack[i - 1] = part;
+      return stackTop == end ? DONE : NONE;
+    }
+
+    /** PARTS of BOTH or EITHER by their TEXTS. Returns DONE or BROKEN if that is all, otherwise NONE. */
+    private int sorted(int kind, int start, int end) {
+      boolean isDone = false;
+      int broken = FIXED;
+      for (int i = start; i < end; i++) {
+        int part = stackAt(i);
+        if (part == DONE) {
+          isDone = true;
+        } else if (kindOf(part) == ENDED) {
+          broken = Math.min(broken, part);
+        } else {
+          int place = stackTop;
+          while (place > end && compared(part, stackAt(place - 1)) < 0) place--;
+          if (place == end || compared(part, stackAt(place - 1)) != 0) insert(part, place);
+        }
       }
+      boolean isEmpty = stackTop == end;
+      if (kind == BOTH && broken < FIXED) return broken;
+      if (kind == EITHER && isDone) return DONE;
+      if (!isEmpty) return NONE;
+      return broken < FIXED ? broken : DONE;
+    }
+
+    private void insert(int part, int place) {
+      if (place < 0 || place > stackTop || stackTop >= STACK_ROOM) return;
+      for (int i = stackTop; i > place; i--) stack[i] = stack[i - 1];
+      stack[place] = part;
+      stackTop++;
     }
 
     // ---- what becomes of a clause
@@ -1044,11 +1163,16 @@ public final class Clausekeep {
     private int left(int node, int event, int depth) {
       int kind = kindOf(node);
       if (kind == ENDED || depth > DEEPEST) return node;
-      if (kind == DUTY) return leftOfDuty(node, event);
+      if (kind == DUTY) {
+        int duty = leadOf(node);
+        if (event == eventOfDuty(duty)) return firstOf(node);
+        if (event != DAY) return node;
+        return daysOfDuty(duty) == 0 ? secondOf(node) : duty(duty - 1, firstOf(node), secondOf(node));
+      }
       if (kind == TILL) {
-        if (event == leads[node]) return DONE;
-        int inner = left(firsts[node], event, depth + 1);
-        return inner == firsts[node] ? node : till(inner, leads[node]);
+        if (event == leadOf(node)) return DONE;
+        int inner = left(firstOf(node), event, depth + 1);
+        return inner == firstOf(node) ? node : till(inner, leadOf(node));
       }
       int base = stackTop;
       boolean isMoved = false;
@@ -1064,27 +1188,19 @@ public final class Clausekeep {
       return node;
     }
 
-    private int leftOfDuty(int node, int event) {
-      if (kindOf(node) != DUTY) return node;
-      int duty = leads[node];
-      if (event == eventOfDuty(duty)) return firsts[node];
-      if (event != DAY) return node;
-      return daysOfDuty(duty) == 0 ? seconds[node] : duty(duty - 1, firsts[node], seconds[node]);
-    }
-
     /** All that is one PARTY's is another one's. */
     private int handed(int node, int from, int to, int depth) {
       int kind = kindOf(node);
       if (depth > DEEPEST) return node;
       if (kind == ENDED) return node == brokenBy(from) ? brokenBy(to) : node;
       if (kind == DUTY) {
-        int first = handed(firsts[node], from, to, depth + 1);
-        int second = handed(seconds[node], from, to, depth + 1);
-        int duty = leads[node];
+        int first = handed(firstOf(node), from, to, depth + 1);
+        int second = handed(secondOf(node), from, to, depth + 1);
+        int duty = leadOf(node);
         int event = handedEvent(eventOfDuty(duty), from, to);
         return duty(duty + (event - eventOfDuty(duty)) * 10, first, second);
       }
-      if (kind == TILL) return till(handed(firsts[node], from, to, depth + 1), handedEvent(leads[node], from, to));
+      if (kind == TILL) return till(handed(firstOf(node), from, to, depth + 1), handedEvent(leadOf(node), from, to));
       int base = stackTop;
       for (int i = 0; i < partsOf(node); i++) push(handed(partOf(node, i), from, to, depth + 1));
       return gathered(kind, base);
@@ -1109,27 +1225,36 @@ public final class Clausekeep {
       return nth >= 0 && nth < nowTop && nth < NOW_ROOM ? nows[nth] : 0;
     }
 
+    int mustCount() {
+      int musts = 0;
+      for (int i = 0; i < nowTop; i++) {
+        if (nowAt(i) / KINDS_OF_SIGN == MUST) musts++;
+      }
+      return musts;
+    }
+
     private void findNow(int node, int depth) {
       int kind = kindOf(node);
       if (kind == ENDED || depth > DEEPEST) return;
       if (kind == DUTY) {
-        addNow(leads[node]);
+        addNow(leadOf(node));
       } else if (kind == TILL) {
-        findNow(firsts[node], depth + 1);
+        findNow(firstOf(node), depth + 1);
       } else {
         int many = kind == BEHIND ? 1 : partsOf(node);
         for (int i = 0; i < many; i++) findNow(partOf(node, i), depth + 1);
       }
     }
 
+    /** The numbers of DUTIES rise as their TEXTS do. */
     private void addNow(int duty) {
       int place = 0;
       for (; place < nowTop && place < NOW_ROOM; place++) {
         if (nows[place] == duty) return;
         if (nows[place] > duty) break;
       }
-      if (nowTop >= NOW_ROOM) return;
-      for (int i = nowTop; i > place; i--) nows[i] = nows[i - 1];
+      if (nowTop < 0 || nowTop >= NOW_ROOM) return;
+      for (int i = nowTop; i > place && i < NOW_ROOM; i--) nows[i] = nows[i - 1];
       nows[place] = duty;
       nowTop++;
     }
@@ -1138,7 +1263,7 @@ public final class Clausekeep {
       tellNow(node);
       int musts = 0;
       int mustNots = 0;
-      for (int i = 0; i < nowCount(); i++) {
+      for (int i = 0; i < nowTop; i++) {
         int sign = nowAt(i) / KINDS_OF_SIGN;
         int bit = 1 << eventOfDuty(nowAt(i));
         if (sign == MUST) musts |= bit;
@@ -1171,49 +1296,48 @@ public final class Clausekeep {
       return faultAt == NONE && !isGreat;
     }
 
-    int readPaper(char[] signs, int count, String[] names) {
+    int readPaper(char[] signs, int count, Held held) {
+      if (signs == null || held == null) return DONE;
       clauses.clear();
-      for (int i = 0; i < NAMES && i < names.length; i++) {
-        known[i] = names[i].isEmpty() ? NONE : readKept(names[i]);
-      }
-      length = 0;
-      for (int i = 0; i < count && i < signs.length && i < SOURCE_ROOM; i++) {
-        source[i] = signs[i];
-        length++;
+      for (int i = 0; i < NAMES; i++) {
+        int place = placeOfName(i);
+        known[i] = held.sizeAt(place) == 0 ? NONE : readKept(held, place);
       }
       begin(MOST_OPEN);
-      return whole(row(BEHIND, 0));
+      for (int i = 0; i < count && i < signs.length; i++) add(signs[i]);
+      int node = row(BEHIND, 0);
+      if (at < length) fail();
+      return node;
     }
 
     /** Reads a TEXT that is kept; with what stood for a NAME once, more may be open in it than on the paper. */
-    int readKept(String kept) {
-      length = 0;
-      for (int i = 0; i < kept.length() && i < SOURCE_ROOM; i++) {
-        source[i] = kept.charAt(i);
-        length++;
-      }
+    int readKept(Held held, int place) {
       begin(DEEPEST);
-      return whole(row(BEHIND, 0));
+      if (held == null) return DONE;
+      for (int i = 0; i < held.sizeAt(place); i++) add(held.signAt(place, i));
+      return row(BEHIND, 0);
     }
 
     /** Reads a clause once more, as the only one. */
     int readAgain(int node) {
-      length = clauses.copyText(node, source);
-      clauses.clear();
       begin(DEEPEST);
-      return whole(row(BEHIND, 0));
+      for (int i = 0; i < clauses.sizeOf(node); i++) add(clauses.signOf(node, i));
+      clauses.clear();
+      return row(BEHIND, 0);
     }
 
     private void begin(int most) {
+      length = 0;
       at = 0;
       mostOpen = most;
       faultAt = NONE;
       isGreat = false;
     }
 
-    private int whole(int node) {
-      if (at < length) fail();
-      return node;
+    private void add(char sign) {
+      if (length < 0 || length >= SOURCE_ROOM) return;
+      source[length] = sign;
+      length++;
     }
 
     private void fail() {
@@ -1265,9 +1389,9 @@ public final class Clausekeep {
     /** A row of ";" is one of rows of "/", these are of rows of "&", and these of units. */
     private int row(int kind, int open) {
       int base = clauses.height();
-      clauses.push(kind == BOTH ? unit(open) : row(kind - 1, open));
+      clauses.push(kind <= BOTH ? unit(open) : row(kind - 1, open));
       for (int i = 0; i < SOURCE_ROOM && isJointTaken(kind); i++) {
-        clauses.push(kind == BOTH ? unit(open) : row(kind - 1, open));
+        clauses.push(kind <= BOTH ? unit(open) : row(kind - 1, open));
       }
       return measured(clauses.gathered(kind, base));
     }
@@ -1290,9 +1414,8 @@ public final class Clausekeep {
       if (isTaken('1')) return DONE;
       if (isTaken('0')) return clauses.brokenBy(takeOneOf('A', PARTIES));
       if (isTaken('#')) return takeKnown();
-      if (next() == '+') return duty(open, 0);
-      if (next() == '-') return duty(open, 1);
-      if (next() == '~') return duty(open, 2);
+      int sign = DUTY_SIGNS.indexOf(next());
+      if (sign >= 0) return duty(open, sign);
       if (next() != '(' || open >= mostOpen) {
         fail();
         return DONE;
@@ -1336,8 +1459,10 @@ public final class Clausekeep {
     private final Clauses clauses;
     private final int[] ones = new int[MOST_FOUND];
     private final int[] twos = new int[MOST_FOUND];
+    /** Which one it was found from, and by which EVENT. */
     private final int[] froms = new int[MOST_FOUND];
     private final int[] bys = new int[MOST_FOUND];
+    /** Where each EVENT leads. */
     private final int[] nexts = new int[MOST_FOUND * EVENTS];
     private final boolean[] isHopeful = new boolean[MOST_FOUND];
     private final StringBuilder words = new StringBuilder();
@@ -1353,23 +1478,25 @@ public final class Clausekeep {
       isTooMany = false;
       count = 0;
       add(one, two, NONE, NONE);
-      for (int i = 0; i < count && i < MOST_FOUND; i++) {
-        for (int event = 0; event < EVENTS; event++) {
+      for (int i = 0; i < count && i < MOST_FOUND && !isTooMany; i++) {
+        for (int event = 0; event < EVENTS && !isTooMany; event++) {
           nexts[i * EVENTS + event] = i;
-          if ((events >> event & 1) == 0) continue;
-          int mark = clauses.mark();
-          int first = clauses.left(ones[i], event, 0);
-          int second = clauses.left(twos[i], event, 0);
-          int place = placeOf(first, second);
-          if (place == count && count >= MOST_FOUND) {
-            isTooMany = true;
-            return;
-          }
-          nexts[i * EVENTS + event] = place;
-          if (place == count) add(first, second, i, event);
-          else clauses.release(mark);
+          if ((events >> event & 1) == 1) nexts[i * EVENTS + event] = go(i, event);
         }
       }
+    }
+
+    /** Where an EVENT leads from what was found as that one. */
+    private int go(int from, int event) {
+      if (from < 0 || from >= MOST_FOUND) return NONE;
+      int mark = clauses.mark();
+      int first = clauses.left(ones[from], event, 0);
+      int second = clauses.left(twos[from], event, 0);
+      int place = placeOf(first, second);
+      if (place < count) clauses.release(mark);
+      else if (count < MOST_FOUND) add(first, second, from, event);
+      else isTooMany = true;
+      return place;
     }
 
     private void add(int one, int two, int from, int by) {
@@ -1387,6 +1514,10 @@ public final class Clausekeep {
         if (clauses.isSame(ones[place], one) && clauses.isSame(twos[place], two)) break;
       }
       return place;
+    }
+
+    int countOrRefused() {
+      return isTooMany ? REFUSED : count;
     }
 
     int oneAt(int nth) {
@@ -1469,34 +1600,25 @@ public final class Clausekeep {
       return false;
     }
 
-    /** The LEAST one of a BOTH or an EITHER; it is not to be used if there are TOO MANY pairs then. */
-    int leastOf(int whole, int kind) {
-      int rest = whole;
+    /** The LEAST one of a clause; it is not to be used if there are TOO MANY pairs then. */
+    int leastOf(int whole) {
       isTooMany = false;
+      int kind = clauses.kindOf(whole);
+      if (kind != BOTH && kind != EITHER) return whole;
+      int rest = whole;
       for (int i = 0; i < clauses.partsOf(whole); i++) {
+        // with one part left it is that part, and no others are left
         if (clauses.kindOf(rest) != kind) return rest;
         int mark = clauses.mark();
-        int fewer = without(rest, clauses.partOf(whole, i), kind);
+        int fewer = clauses.without(rest, clauses.partOf(whole, i));
         int made = clauses.mark();
         explore(whole, fewer);
         if (isTooMany) return rest;
-        if (firstApart() < 0) {
-          rest = fewer;
-          clauses.release(made);
-        } else {
-          clauses.release(mark);
-        }
+        boolean isAlike = firstApart() < 0;
+        clauses.release(isAlike ? made : mark);
+        if (isAlike) rest = fewer;
       }
       return rest;
-    }
-
-    private int without(int rest, int part, int kind) {
-      int base = clauses.height();
-      for (int i = 0; i < clauses.partsOf(rest); i++) {
-        int other = clauses.partOf(rest, i);
-        if (other != part) clauses.push(other);
-      }
-      return clauses.gathered(kind, base);
     }
   }
 }

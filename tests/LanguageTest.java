@@ -1,0 +1,69 @@
+import java.io.IOException;
+import java.nio.file.Files;
+import java.nio.file.Path;
+import java.util.regex.Matcher;
+import java.util.regex.Pattern;
+
+/** Those rules of LANGUAGE.md that can be seen from the source without understanding it, and the face. */
+public final class LanguageTest {
+  private static final String[] FACE = {"say", "wipe", "name", "unname", "draw", "join", "act", "days", "run", "transfer",
+      "waive", "worth", "fine", "undo", "blank", "knock", "paper", "fault", "named", "text", "ofContract", "duties",
+      "due", "told", "log", "account", "house", "reached", "found", "clash", "hopeless", "way", "alike", "apart", "pairs",
+      "binds", "least", "sure", "isSound", "digest"};
+
+  private static final String[] FORBIDDEN = {"\\bimport\\b", "\\bpackage\\b", "->", "::", "\\bsynchronized\\b",
+      "\\bassert\\b", "\\bcatch\\b", "\\bfinally\\b", "String\\s*\\[\\]", "\\bHashMap\\b", "\\bString\\.valueOf\\b",
+      "\\bstatic\\s*\\{", "Exact\\b", "\\bequals\\s*\\(\\s*Object", "\\bvar\\b", "\\binstanceof\\b", "\\bSystem\\.(?!arraycopy)",
+      "\\bprotected\\b", "\"\\s*\\+", "\\+\\s*\""};
+
+  public static void main(String[] args) throws IOException {
+    String source = Files.readString(Path.of("src/main/java/Clausekeep.java"));
+    String code = source.replaceAll("(?s)/\\*.*?\\*/", "").replaceAll("//[^\n]*", "");
+    // what stands in a text or a comment is no code
+    String bare = code.replaceAll("\"[^\"\n]*\"", "\"\"");
+    for (String bad : FORBIDDEN) {
+      Checks.same("whether the class has " + bad, Pattern.compile(bad).matcher(bare).find(), false);
+    }
+    Checks.same("whether all signs are plain", source.matches("[\\x0a\\x20-\\x7e]*"), true);
+    Checks.same("the longest line", source.lines().mapToInt(String::length).max().orElse(0) <= 120, true);
+    Checks.same("how many classes", count(code, "\\bclass\\s+\\w+") <= 12, true);
+    face();
+    Checks.end();
+  }
+
+  private static int count(String text, String pattern) {
+    Matcher found = Pattern.compile(pattern).matcher(text);
+    int many = 0;
+    while (found.find()) many++;
+    return many;
+  }
+
+  private static void face() {
+    java.util.Set<String> due = java.util.Set.of(FACE);
+    int faces = 0;
+    for (java.lang.reflect.Method method : Clausekeep.class.getDeclaredMethods()) {
+      boolean isPublic = java.lang.reflect.Modifier.isPublic(method.getModifiers());
+      boolean isPrivate = java.lang.reflect.Modifier.isPrivate(method.getModifiers());
+      Checks.same("whether " + method + " is of the face", due.contains(method.getName()), isPublic);
+      Checks.same("whether " + method + " is public or private", isPublic || isPrivate, true);
+      if (isPublic) faces++;
+    }
+    Checks.same("how many methods the face has", faces, FACE.length);
+    for (java.lang.reflect.Field field : Clausekeep.class.getDeclaredFields()) {
+      Checks.same("whether " + field + " is private", java.lang.reflect.Modifier.isPrivate(field.getModifiers()), true);
+    }
+    int kept = 0;
+    for (Class<?> inner : Clausekeep.class.getDeclaredClasses()) {
+      for (java.lang.reflect.Method method : inner.getDeclaredMethods()) {
+        Checks.same("whether " + method + " has a name of the face", due.contains(method.getName()), false);
+      }
+      int fields = 0;
+      for (java.lang.reflect.Field field : inner.getDeclaredFields()) {
+        if (!java.lang.reflect.Modifier.isStatic(field.getModifiers())) fields++;
+      }
+      Checks.same("whether " + inner + " has at most 20 fields", fields <= 20, true);
+      kept++;
+    }
+    Checks.same("classes inside", kept > 0, true);
+  }
+}
