@@ -97,6 +97,8 @@ public final class ContractTest {
   private static void left() {
     left("+Ap1", "Ap", "1");
     left("+Ap1", ".", "+Ap0");
+    left("+As1", "ArAs", "1");
+    left("+Cs1", "BsCs", "1");
     left("+Ap1", "..", "0A");
     left("+Ap1", "BpAqCs", "+Ap1");
     left("-Bq0", "Bq", "0B");
@@ -182,7 +184,7 @@ public final class ContractTest {
     Checks.type(hall, "..");
     Checks.same("a row for one that is done", hall.run(0), 0);
     Checks.same("the paper is empty, too", hall.paper(false), "");
-    for (String bad : new String[] {"A", "p", "Ap.A", "pA", "ApA.", "1", "+Ap1", "Ap1", "..#", "AA", "A.", ".p"}) {
+    for (String bad : new String[] {"A", "p", "Ap.A", "pA", "ApA.", "1", "+Ap1", "Ap1", "..#", "AA", "A.", ".p", "1p", "+p", "pq", "#s", "A0"}) {
       hall.wipe();
       Checks.type(hall, bad);
       String before = Checks.all(hall);
@@ -253,6 +255,9 @@ public final class ContractTest {
     Checks.same("worth the same", hall.worth(0, 0, 0, 5), 5);
     hall.worth(0, 0, 2, 99);
     hall.worth(2, 3, 1, -7);
+    hall.worth(2, 3, 2, 60);
+    hall.undo();
+    Checks.same("the last worth of all is undone", hall.worth(2, 3, 2, 0), 0);
     hall.act(0, 2, 3);
     Checks.same("B after Cs", hall.account(1), -7);
     hall.act(0, 0, 0);

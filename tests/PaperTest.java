@@ -67,7 +67,15 @@ public final class PaperTest {
       Checks.badNumber(hall, "say f " + bad, () -> hall.say(1, 1, 1, 1, 1, bad));
     }
     for (int i = 0; i < 6; i++) hall.say(1, 1, 1, 1, 1, 1);
+    Checks.same("38 stand there", hall.house(0), 38);
     Checks.badState(hall, "say of six on 38", () -> hall.say(1, 1, 1, 1, 1, 1));
+    hall.say(1, -1, -1, -1, -1, 1);
+    Checks.badState(hall, "say a on 40", () -> hall.say(1, -1, -1, -1, -1, -1));
+    Checks.badState(hall, "say b on 40", () -> hall.say(-1, 1, -1, -1, -1, -1));
+    Checks.badState(hall, "say c on 40", () -> hall.say(-1, -1, 1, -1, -1, -1));
+    Checks.badState(hall, "say d on 40", () -> hall.say(-1, -1, -1, 1, -1, -1));
+    Checks.badState(hall, "say e on 40", () -> hall.say(-1, -1, -1, -1, 1, -1));
+    Checks.badState(hall, "say f on 40", () -> hall.say(-1, -1, -1, -1, -1, 1));
     Checks.badNumber(hall, "say of a bad one, too many as well", () -> hall.say(1, 1, 1, 1, 1, 32));
   }
 

@@ -97,6 +97,8 @@ public final class RowTest {
     row("hopeless", "~Bq1[1|+Ap0&-Ap0]", "..");
     row("hopeless", "+Ap1&-Ap2/+Cs0", ".");
     row("hopeless", "(+Ap1&-Ap2)@Cs", "-");
+    row("hopeless", "~Ap2[+Bq1|0B]", "-");
+    row("hopeless", "~Ap2[+Bq1|-Bq0;0B]", "...");
   }
 
   private static void way() {
@@ -228,7 +230,12 @@ public final class RowTest {
     Checks.same("broken by another one", sure(hall, "~Ap1&-Bs1", 0, 1), 10);
     Checks.same("the act of another one as the turn begins", sure(hall, "~Ap1[~Bp1|1]&~As1", 0, 1), 3);
     Checks.same("with none to come", sure(hall, "~As1[~Bp1|1]", 0, 1), -7);
+    Checks.same("others before the day", sure(hall, "-Bs0[0A|1]", 0, 1), -30);
     Checks.same("another party", sure(hall, "~Ap1&~Bp1", 1, 1), 0);
+    hall.worth(0, 0, 1, -2);
+    hall.worth(2, 3, 1, -3);
+    Checks.same("the first act of all against another party", sure(hall, "~Ap1&~Bs1", 1, 1), -2);
+    Checks.same("the last act of all against another party", sure(hall, "~Cs1&~Ap1&~Bs1", 1, 1), -3);
     Checks.same("a fine is not that of others", sure(hall, "+As0", 1, 1), 0);
     Checks.same("either way a day goes by", sure(hall, "+Ap0[1|1]&+As0[1|0A]", 0, 1), 0);
   }

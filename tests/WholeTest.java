@@ -86,6 +86,7 @@ public final class WholeTest {
     Checks.same("digest with too many", hall.digest(), digestOf(hall));
     Checks.kept(hall, 5, "+Ap1&+Bq1");
     Checks.kept(hall, 2, "0C");
+    Checks.kept(hall, 1, "1");
     Checks.type(hall, "+Cs1&#4");
     hall.worth(1, 1, 2, -50);
     hall.fine(77);
