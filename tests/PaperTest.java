@@ -217,6 +217,9 @@ public final class PaperTest {
     for (int i = 0; i < bads.length; i++) fault(bads[i], dues[i]);
     fault("+Ap1[+Ap1[+Ap1[+Ap1[+Ap1[+Ap1[1", 29);
     fault("(1)@Ap;((((1))))&(((((1))))))", 28);
+    fault("+Ap1[1|(((((1", 11);
+    fault("+Ap1[(((((1", 9);
+    fault("(1)&((((+Ap1[+Ap1[1|1]|1]))))", 17);
   }
 
   private static void faultsOfNames() {

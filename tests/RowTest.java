@@ -233,6 +233,9 @@ public final class RowTest {
     Checks.same("others before the day", sure(hall, "-Bs0[0A|1]", 0, 1), -30);
     Checks.same("another party", sure(hall, "~Ap1&~Bp1", 1, 1), 0);
     hall.worth(0, 0, 1, -2);
+    hall.worth(1, 0, 0, 90);
+    Checks.same("an act of another one cannot be chosen", sure(hall, "~Bp1", 0, 1), 0);
+    hall.worth(1, 0, 0, -7);
     hall.worth(2, 3, 1, -3);
     Checks.same("the first act of all against another party", sure(hall, "~Ap1&~Bs1", 1, 1), -2);
     Checks.same("the last act of all against another party", sure(hall, "~Cs1&~Ap1&~Bs1", 1, 1), -3);

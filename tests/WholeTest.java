@@ -87,6 +87,7 @@ public final class WholeTest {
     Checks.kept(hall, 5, "+Ap1&+Bq1");
     Checks.kept(hall, 2, "0C");
     Checks.kept(hall, 1, "1");
+    Checks.kept(hall, 0, "+Cs3");
     Checks.type(hall, "+Cs1&#4");
     hall.worth(1, 1, 2, -50);
     hall.fine(77);
