@@ -30,7 +30,8 @@ final class BoundsOfLife {
 
   // ---- the 512th call
 
-  private static Checks.Call[] askedOf(Clausekeep h) {
+  /** A call of each method, those that change something first. */
+  static Checks.Call[] askedOf(Clausekeep h) {
     return new Checks.Call[] {() -> h.say(1, 2, 3, 4, 5, 31), () -> h.wipe(), () -> h.name(1), () -> h.unname(0),
         () -> h.draw(3), () -> h.join(0, 1, 2, 0), () -> h.act(0, 0, 0), () -> h.days(0, 9), () -> h.run(0),
         () -> h.transfer(0, 0, 2), () -> h.waive(0, 1), () -> h.worth(0, 0, 0, 1), () -> h.fine(1), () -> h.undo(),

@@ -1,4 +1,5 @@
 import java.io.IOException;
+import java.lang.reflect.Modifier;
 import java.nio.file.Files;
 import java.nio.file.Path;
 import java.util.regex.Matcher;
@@ -28,7 +29,41 @@ public final class LanguageTest {
     Checks.same("the longest line", source.lines().mapToInt(String::length).max().orElse(0) <= 120, true);
     Checks.same("how many classes", count(code, "\\bclass\\s+\\w+") <= 12, true);
     face();
+    for (Class<?> each : Clausekeep.class.getDeclaredClasses()) small(each);
+    small(Clausekeep.class);
+    Checks.same("the longest method", longestMethod(bare) <= 60, true);
     Checks.end();
+  }
+
+  /** At most seven parameters; what is static is final; an inner class is static, and private or package-visible. */
+  private static void small(Class<?> each) {
+    for (java.lang.reflect.Method method : each.getDeclaredMethods()) {
+      Checks.same("whether " + method + " has at most 7 parameters", method.getParameterCount() <= 7, true);
+      Checks.same("whether " + method + " is synchronized", Modifier.isSynchronized(method.getModifiers()), false);
+    }
+    for (java.lang.reflect.Field field : each.getDeclaredFields()) {
+      int signs = field.getModifiers();
+      Checks.same("whether " + field + " may be static", !Modifier.isStatic(signs) || Modifier.isFinal(signs), true);
+    }
+    if (each == Clausekeep.class) return;
+    int signs = each.getModifiers();
+    boolean isShut = !Modifier.isPublic(signs) && !Modifier.isProtected(signs);
+    Checks.same("whether " + each + " is static and shut", Modifier.isStatic(signs) && isShut, true);
+  }
+
+  /** From a row that opens a method's braces to the row that closes them by the same blanks ahead. */
+  private static int longestMethod(String code) {
+    String[] rows = code.split("\n", -1);
+    int longest = 0;
+    for (int i = 0; i < rows.length; i++) {
+      if (!rows[i].matches(" +(public |private |static )*[\\w\\[\\]]+ ?\\w*\\([^;]*\\) ?(throws [\\w, ]+)?\\{")) continue;
+      String end = rows[i].replaceAll("^( *).*", "$1}");
+      int last = i;
+      while (last < rows.length && !rows[last].equals(end)) last++;
+      longest = Math.max(longest, last - i + 1);
+    }
+    Checks.same("whether methods were found", longest > 10, true);
+    return longest;
   }
 
   private static int count(String text, String pattern) {
