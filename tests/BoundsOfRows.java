@@ -391,6 +391,17 @@ final class BoundsOfRows {
     Checks.same("a day goes by behind", sure(hall, "-Ar0[1|0A]", 1), 0);
     Checks.same("a day that breaks it", sure(hall, "~Br0[1|0A]", 1), -40);
     Checks.same("a day that does not break it", sure(hall, "~Br1[1|0A]", 1), 0);
+    Checks.same("others ahead of the day", sure(hall, "-Bq0[0A|1]", 1), 20 - 40);
+    Checks.same("the own act ahead of others", sure(hall, "~As3/-Bq0[0A|1]", 1), 50);
+    // all acts of both others, from the first one to the last one
+    hall.fine(0);
+    for (int party = 0; party < 3; party++) {
+      for (int i = 0; i < 12; i++) {
+        hall.worth(i / 4, i % 4, party, -1 - i);
+        Checks.drawn(hall, 0, "~" + "ABC".charAt(i / 4) + "pqrs".charAt(i % 4) + "9");
+        Checks.same("act " + i + " against " + party, hall.sure(0, party, 1), i / 4 == party ? 0 : -1 - i);
+      }
+    }
   }
 
   private static void sureWhileOpen() {
