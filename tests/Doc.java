@@ -35,6 +35,15 @@ final class Doc {
     return promise >= 0 && promise <= PROMISES && plain(PARTS[promise]).contains(plain(words));
   }
 
+  /** The rows of the public face: the class, its constructor, its methods. */
+  static List<String> face() {
+    List<String> rows = new ArrayList<>();
+    for (String row : PARTS[0].split("\n")) {
+      if (row.startsWith("public ") || row.startsWith("    public ")) rows.add(plain(row));
+    }
+    return rows;
+  }
+
   /** The sentences of a part, or the pieces between its ":" and ";", that name a boundary case. */
   static List<String> bounds(int promise) {
     List<String> all = new ArrayList<>();

@@ -29,6 +29,7 @@ public final class LanguageTest {
     Checks.same("the longest line", source.lines().mapToInt(String::length).max().orElse(0) <= 120, true);
     Checks.same("how many classes", count(code, "\\bclass\\s+\\w+") <= 12, true);
     face();
+    signatures(Doc.plain(bare));
     for (Class<?> each : Clausekeep.class.getDeclaredClasses()) small(each);
     small(Clausekeep.class);
     Checks.same("the longest method", longestMethod(bare) <= 60, true);
@@ -71,6 +72,17 @@ public final class LanguageTest {
     int many = 0;
     while (found.find()) many++;
     return many;
+  }
+
+  /** The face of the document stands in the class word by word. */
+  private static void signatures(String code) {
+    int signatures = 0;
+    for (String row : Doc.face()) {
+      String due = row.replaceAll(";$", " {");
+      Checks.same("whether the class has \"" + due + '"', code.contains(due), true);
+      signatures++;
+    }
+    Checks.same("signatures, with the class and the constructor", signatures, FACE.length + 2);
   }
 
   private static void face() {
